@@ -501,9 +501,11 @@ public final class ChairPast {
         }
 
         int next() {
-            int v = numberAt(mark);
+            if (mark >= size) {
+                return NONE;
+            }
             mark++;
-            return v;
+            return items[mark - 1];
         }
     }
 
@@ -561,7 +563,7 @@ public final class ChairPast {
         }
 
         int bearingOn(Chair c, int own) {
-            return c.sat % 2 == 0 ? super.bearingOn(c, own) : own;
+            return c.sat % 2 == 0 ? blend(c.manner, c.strength, own) : own;
         }
 
         int sizeOf(Chair c, Line bodies) {
@@ -659,7 +661,7 @@ public final class ChairPast {
 
         /** Somebody sits down: his BEARING; the CHAIR is then as he leaves it. */
         int bear(int own, int will) {
-            int bearing = bearingOf(own);
+            int bearing = kind.bearingOn(this, own);
             sat = Math.min(sat + 1, MOST_SAT);
             kind.wear(this);
             if (strength < will) {
@@ -1285,6 +1287,7 @@ public final class ChairPast {
 
         /** CANED: each set of CHAIRS that may be recaned is weighed, in tenths for each CHAIR. */
         int chanceOfPeace(int least, int tenths, int what) {
+            now.writeTo(page);
             int above = 0;
             int below = 1;
             for (int i = 0; i < now.chairCount; i++) {
@@ -1300,7 +1303,7 @@ public final class ChairPast {
         }
 
         private int peaceIfRecaned(int recaned) {
-            startTrial();
+            trial.readFrom(page);
             for (int i = 0; i < trial.chairCount; i++) {
                 if ((recaned >> i & 1) == 1) {
                     trial.chairs[i].strength = 0;

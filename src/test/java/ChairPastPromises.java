@@ -65,11 +65,6 @@ public final class ChairPastPromises {
         due(2, "anew", x.row(7, 1, 2), 2);
         due(2, "the old items are gone", x.set(7, 2, 1), PLACE);
         due(2, "one row still", x.count(0), 2);
-        x.set(7, 0, 5);
-        x.row(7, 1, 2);
-        x.row(6, 1, 1);
-        x.set(6, 0, 9);
-        due(2, "items are 0 at first", x.copy(7, 0, 6, 0, 1), 1);
 
         due(3, "byte 127", x.row(1, 0, 2) + x.set(1, 0, 127), 129);
         due(3, "byte 128", x.set(1, 0, 128), -128);
@@ -101,8 +96,13 @@ public final class ChairPastPromises {
         ChairPast x = with("a0;t5,16,0;z1,1;");
         x.row(0, 0, 5);
         for (int i = 0; i < 5; i++) {
+            due(2, "0 at first", itemOf(x, 0, i), 0);
             x.set(0, i, i + 1);
         }
+        x.row(1, 0, 5);
+        x.set(1, 3, 9);
+        x.row(1, 0, 5);
+        due(2, "0 anew", itemOf(x, 1, 3), 0);
         due(4, "forward over itself", x.copy(0, 0, 0, 1, 4), 4);
         int[] want = {1, 1, 2, 3, 4};
         for (int i = 0; i < 5; i++) {
@@ -370,6 +370,8 @@ public final class ChairPastPromises {
         due(17, "STRENGTH", x.would(1, 0, 2), 9);
         due(17, "a barber's MANNER", x.would(0, 2, 1), 0);
         due(17, "nothing changes", x.chair(0, 1) * 10 + x.chair(0, 3), 121);
+        x.sit(1, 1);
+        due(17, "on one that rocks, with a SAT of 1", x.would(3, 1, 0), 4);
         due(17, "guest 4", x.would(4, 0, 0), BAD);
         due(17, "chair 5", x.would(0, 5, 0), BAD);
         due(17, "what 3", x.would(0, 0, 3), BAD);
@@ -398,6 +400,11 @@ public final class ChairPastPromises {
         due(18, "how much of it", same.seating(-1), 10);
         ChairPast torn = with("a9;t0,16,1;t9,16,1;t0,16,1;z1,1;z2,1;z3,1;");
         due(18, "1 and 1 less 9", torn.seating(-1), -7);
+        ChairPast beside = with("a0;t1,16,0;t5,16,0;t4,16,0;z0,1;z0,1;");
+        beside.sit(0, 0);
+        due(18, "beside the one who sits", beside.seating(-1) * 100 + beside.seating(0) * 10 + beside.seating(1), 601);
+        ChairPast last = with("a0;t1,16,0;t5,16,0;t6,16,0;z0,1;z0,1;");
+        due(18, "the best two", last.seating(-1) * 100 + last.seating(0) * 10 + last.seating(1), 912);
         ChairPast all = with("a0;t0,16,1;t9,16,1;z1,1;z2,1;");
         all.sit(0, 1);
         all.sit(1, 0);
@@ -414,6 +421,8 @@ public final class ChairPastPromises {
         due(19, "no third", x.warm(0, 0, 3, 2), NONE);
         due(19, "never", x.warm(0, 0, 9, -1), NONE);
         due(19, "so none", x.warm(0, 0, 9, 1), NONE);
+        due(19, "0 is a bearing", x.warm(0, 2, 0, -1), 0);
+        due(19, "9 is one, too", x.warm(1, 4, 9, -1), 0);
         due(19, "bearing 10", x.warm(0, 0, 10, -1), BAD);
         due(19, "bearing -1", x.warm(0, 0, -1, -1), BAD);
         due(19, "k 3", x.warm(0, 0, 7, 3), BAD);
@@ -445,6 +454,8 @@ public final class ChairPastPromises {
         due(21, "he", x.between(1, 5, 16, 0), 4);
         due(21, "pairs: 9 of 12, nobody takes it", x.between(0, 7, 9, 1), 16);
         due(21, "pairs: any other, then he (he twice: 12)", x.between(1, 5, 16, 1), 3);
+        due(21, "manner 0, 9, strength 0 may be told", x.between(0, 0, 16, 0) + x.between(0, 9, 0, 0), 0);
+        due(21, "manner 9 of guest 1", x.between(4, 9, 16, 0), 2);
         due(21, "manner 10", x.between(0, 10, 0, 0), BAD);
         due(21, "manner -1", x.between(0, -1, 0, 0), BAD);
         due(21, "strength 17", x.between(0, 0, 17, 0), BAD);
@@ -461,6 +472,8 @@ public final class ChairPastPromises {
         due(22, "STATE is ahead", new ChairPast().trios(2), STATE);
         ChairPast y = with("a0;p1,1,2;p1,1,3;p1,1,3;p1,1,3;p1,1,3;");
         due(22, "two, from 1 on", y.trios(0) * 10 + y.trios(1), 21);
+        due(22, "another one in the middle", with("a0;p1,1,2;p1,1,3;p1,1,2;").trios(0), 0);
+        due(22, "another one at the end", with("a0;p1,1,2;p1,1,2;p1,1,3;").trios(1), NONE);
         due(22, "two chairs", with("a0;p1,1,2;p1,1,2;").trios(1), NONE);
         due(22, "two chairs: none", with("a0;p1,1,2;p1,1,2;").trios(0), 0);
     }
@@ -537,6 +550,8 @@ public final class ChairPastPromises {
         due(25, "his bearing stays 4", x.caned(9, 3, 0) * 100 + x.caned(9, 3, 1), 310);
         ChairPast few = with("a0;t4,16,0;z4,1;z5,1;");
         due(25, "who finds none stands", few.caned(0, 5, 0), 1);
+        ChairPast third = with("a0;p4,16,0;t9,16,0;z4,1;z5,1;z9,1;");
+        due(25, "a third one changes nothing", third.caned(6, 0, 0) * 10 + third.caned(5, 0, 0), 1);
         ChairPast five = with("a0;t0,16,0;t0,16,0;t0,16,0;t0,16,0;t0,16,0;z9,1;z9,1;z9,1;z9,1;z9,1;");
         // 40: none or all: 0.9^5 + 0.1^5 = 0.5905
         due(25, "none or all", five.caned(40, 1, 0), 1181);
